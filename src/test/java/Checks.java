@@ -46,18 +46,12 @@ final class Checks {
         }
     }
 
-    /** More than digest tells: the places, and what is to come. */
+    /**
+     * All that digest tells, and what is to come; no more, since nothing is promised of an object
+     * behind its 512th call, and a test has to stay below that.
+     */
     static long fingerprint(PawnRack rack) {
-        long sum = rack.digest();
-        for (int shelf = 0; shelf < 3; shelf++) {
-            for (int place = 0; place < 10 * (shelf + 1); place++) {
-                sum = sum * 37 + rack.at(shelf, place);
-            }
-        }
-        for (int what = 0; what < 3; what++) {
-            sum = sum * 37 + rack.foresee(70, what);
-        }
-        return sum;
+        return 37 * rack.digest() + rack.foresee(200, 0);
     }
 
     private static void tell(String text) {
