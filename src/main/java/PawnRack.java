@@ -481,12 +481,11 @@ public final class PawnRack {
         }
 
         void lay(int ticket, int width) {
-            for (int shelf = 0; shelf < shelves.length; shelf++) {
-                int place = shelves[shelf].gapFor(width);
-                if (place != NONE) {
-                    shelves[shelf].lay(ticket, place, width);
-                    return;
-                }
+            int spot = spotFor(width);
+            int shelf = spot / 100;
+            int place = spot % 100;
+            if (hasPlace(shelf, place)) {
+                shelves[shelf].lay(ticket, place, width);
             }
         }
 

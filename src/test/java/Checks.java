@@ -14,6 +14,15 @@ final class Checks {
     private Checks() {
     }
 
+    /** A rack with a customer for each of the coins. */
+    static PawnRack rackWith(int... coins) {
+        PawnRack rack = new PawnRack();
+        for (int each : coins) {
+            rack.come(each);
+        }
+        return rack;
+    }
+
     static void same(String what, long got, long due) {
         asked++;
         if (got != due) {

@@ -18,16 +18,8 @@ public final class DaysTest {
         Checks.end();
     }
 
-    private static PawnRack rackWith(int... coins) {
-        PawnRack rack = new PawnRack();
-        for (int each : coins) {
-            rack.come(each);
-        }
-        return rack;
-    }
-
     private static void pass() {
-        PawnRack rack = rackWith(100);
+        PawnRack rack = Checks.rackWith(100);
         Checks.same("pass(1)", rack.pass(1), 0);
         Checks.same("the day 1", rack.count(0), 1);
         Checks.same("pass(200)", rack.pass(200), 0);
@@ -46,7 +38,7 @@ public final class DaysTest {
     }
 
     private static void passRefuses() {
-        PawnRack rack = rackWith(100);
+        PawnRack rack = Checks.rackWith(100);
         rack.pledge(0, 0, 50, 2);
         for (int days : new int[] {-1, 0, 201, Integer.MIN_VALUE, Integer.MAX_VALUE}) {
             Checks.refuses(rack, "pass(" + days + ")", Checks.ARGUMENT, () -> rack.pass(days));
@@ -54,7 +46,7 @@ public final class DaysTest {
     }
 
     private static void goesForSaleBehindTheDueDay() {
-        PawnRack rack = rackWith(100);
+        PawnRack rack = Checks.rackWith(100);
         rack.pass(3);
         rack.pledge(0, 0, 50, 2);
         rack.pass(60);
@@ -79,7 +71,7 @@ public final class DaysTest {
     }
 
     private static void pricesFall() {
-        PawnRack rack = rackWith(0);
+        PawnRack rack = Checks.rackWith(0);
         int[] values = {479, 100, 39, 20, 19, 1};
         int[] fall = {23, 5, 1, 1, 0, 0};
         int[] least = {143, 30, 11, 6, 5, 0};
@@ -102,7 +94,7 @@ public final class DaysTest {
     /** For each value the price stops at value * 3 / 10, or falls by nothing. */
     private static void leastPrices() {
         for (int value = 1; value <= 500; value++) {
-            PawnRack rack = rackWith(0);
+            PawnRack rack = Checks.rackWith(0);
             rack.pledge(0, 0, value, 1);
             rack.pass(62);
             Checks.same("first price of " + value, rack.ticket(0, 9), value);
@@ -114,7 +106,7 @@ public final class DaysTest {
     }
 
     private static void soldOnTheFirstDay() {
-        PawnRack rack = rackWith(0);
+        PawnRack rack = Checks.rackWith(0);
         rack.pledge(0, 3, 100, 5);
         rack.setBuyer(61 % 7, 3, 100);
         Checks.same("nothing is sold up to the day 60", rack.pass(61), 0);
@@ -127,7 +119,7 @@ public final class DaysTest {
 
     private static void theBuyerOfTheWeekday() {
         for (int weekday = 0; weekday < 7; weekday++) {
-            PawnRack rack = rackWith(0);
+            PawnRack rack = Checks.rackWith(0);
             rack.pledge(0, 1, 10, 1);
             rack.pledge(0, 2, 10, 1);
             rack.pass(70);
@@ -143,7 +135,7 @@ public final class DaysTest {
     }
 
     private static void theDearestWithinThePurse() {
-        PawnRack rack = rackWith(0);
+        PawnRack rack = Checks.rackWith(0);
         rack.pledge(0, 0, 10, 1);
         rack.pledge(0, 0, 19, 1);
         rack.pledge(0, 0, 18, 1);
@@ -163,7 +155,7 @@ public final class DaysTest {
     }
 
     private static void theSmallestNumberOfEqualOnes() {
-        PawnRack rack = rackWith(0);
+        PawnRack rack = Checks.rackWith(0);
         rack.pledge(0, 0, 5, 1);
         rack.pledge(0, 0, 19, 1);
         rack.pledge(0, 0, 19, 1);
@@ -180,7 +172,7 @@ public final class DaysTest {
     }
 
     private static void oneThingADay() {
-        PawnRack rack = rackWith(0);
+        PawnRack rack = Checks.rackWith(0);
         for (int i = 0; i < 5; i++) {
             rack.pledge(0, 0, 10, 1);
         }
@@ -191,7 +183,7 @@ public final class DaysTest {
     }
 
     private static void thePurseIsFullEachDay() {
-        PawnRack rack = rackWith(0);
+        PawnRack rack = Checks.rackWith(0);
         for (int i = 0; i < 5; i++) {
             rack.pledge(0, 0, 10, 1);
         }
@@ -207,7 +199,7 @@ public final class DaysTest {
     }
 
     private static void trustFalls() {
-        PawnRack rack = rackWith(500, 500);
+        PawnRack rack = Checks.rackWith(500, 500);
         rack.pledge(0, 0, 10, 1);
         rack.pass(1);
         rack.pledge(0, 0, 10, 1);
@@ -226,7 +218,7 @@ public final class DaysTest {
     }
 
     private static void count() {
-        PawnRack rack = rackWith(100, 200, 300);
+        PawnRack rack = Checks.rackWith(100, 200, 300);
         rack.pledge(0, 0, 100, 10); // a loan of 60
         rack.pledge(1, 1, 50, 9);   // a loan of 30
         rack.pledge(1, 2, 20, 3);   // a loan of 12
@@ -252,7 +244,7 @@ public final class DaysTest {
     }
 
     private static void countRefuses() {
-        PawnRack rack = rackWith(100);
+        PawnRack rack = Checks.rackWith(100);
         for (int what : new int[] {-1, 11, Integer.MIN_VALUE, Integer.MAX_VALUE}) {
             Checks.refuses(rack, "count(" + what + ")", Checks.INDEX, () -> rack.count(what));
         }

@@ -16,16 +16,8 @@ public final class OutlookTest {
         Checks.end();
     }
 
-    private static PawnRack rackWith(int... coins) {
-        PawnRack rack = new PawnRack();
-        for (int each : coins) {
-            rack.come(each);
-        }
-        return rack;
-    }
-
     private static void foresee() {
-        PawnRack rack = rackWith(0);
+        PawnRack rack = Checks.rackWith(0);
         rack.pledge(0, 0, 100, 5); // a loan of 60
         rack.pledge(0, 1, 10, 5);  // a loan of 6
         rack.setBuyer(0, 0, 80);
@@ -53,7 +45,7 @@ public final class OutlookTest {
     /** Each object is asked ahead of the days; the answers of another object are no matter. */
     private static void foreseeIsWhatPassDoes() {
         for (int days = 1; days <= 200; days++) {
-            PawnRack rack = rackWith(100, 50);
+            PawnRack rack = Checks.rackWith(100, 50);
             for (int i = 0; i < 12; i++) {
                 rack.pledge(i % 2, i % 5, 5 + 6 * i, 1 + i % 7);
                 rack.pass(1 + i);
@@ -73,7 +65,7 @@ public final class OutlookTest {
     }
 
     private static void foreseeRefuses() {
-        PawnRack rack = rackWith(100);
+        PawnRack rack = Checks.rackWith(100);
         for (int days : new int[] {-1, 0, 201, Integer.MIN_VALUE, Integer.MAX_VALUE}) {
             Checks.refuses(rack, "foresee(" + days + ", 0)", Checks.ARGUMENT, () -> rack.foresee(days, 0));
             Checks.refuses(rack, "foresee(" + days + ", 3)", Checks.ARGUMENT, () -> rack.foresee(days, 3));
@@ -84,7 +76,7 @@ public final class OutlookTest {
     }
 
     private static void raise() {
-        PawnRack rack = rackWith(0);
+        PawnRack rack = Checks.rackWith(0);
         for (int value : new int[] {7, 19, 1, 12, 19, 3}) {
             rack.pledge(0, 0, value, 1);
         }
@@ -99,14 +91,14 @@ public final class OutlookTest {
         rack.pass(1);
         Checks.same("sold things raise nothing", rack.raise(43), -1);
         Checks.same("all of the rest", rack.raise(42), 5);
-        PawnRack many = rackWith(0);
+        PawnRack many = Checks.rackWith(0);
         for (int i = 0; i < 40; i++) {
             many.pledge(0, 0, 1, 1);
         }
         many.pass(62);
         Checks.same("all 40", many.raise(40), 40);
         Checks.same("more than all 40", many.raise(41), -1);
-        PawnRack falling = rackWith(0);
+        PawnRack falling = Checks.rackWith(0);
         falling.pledge(0, 0, 100, 1);
         falling.pass(62);
         Checks.same("100 now", falling.raise(100), 1);
@@ -116,7 +108,7 @@ public final class OutlookTest {
     }
 
     private static void raiseRefuses() {
-        PawnRack rack = rackWith(0);
+        PawnRack rack = Checks.rackWith(0);
         rack.pledge(0, 0, 100, 1);
         rack.pass(62);
         for (int coins : new int[] {0, -1, Integer.MIN_VALUE}) {
@@ -125,7 +117,7 @@ public final class OutlookTest {
     }
 
     private static void best() {
-        PawnRack rack = rackWith(0, 2000, 0);
+        PawnRack rack = Checks.rackWith(0, 2000, 0);
         rack.pledge(0, 0, 40, 1);  // 25 is owed: 15 more
         rack.pledge(1, 0, 300, 1); // 189 is owed: 111 more
         rack.pledge(0, 0, 60, 1);  // 37 is owed: 23 more
@@ -150,7 +142,7 @@ public final class OutlookTest {
     }
 
     private static void bestBelowZero() {
-        PawnRack rack = rackWith(100);
+        PawnRack rack = Checks.rackWith(100);
         rack.pledge(0, 0, 1, 1); // a loan of 1, and 1 more for each 30 days
         Checks.same("1 below", rack.best(0), 0);
         rack.pass(30);
@@ -158,7 +150,7 @@ public final class OutlookTest {
         Checks.same("1 below rather than 2", rack.best(0), 1);
         rack.pledge(0, 0, 2, 1);
         Checks.same("0 rather than 1 below", rack.best(0), 2);
-        PawnRack poor = rackWith(0);
+        PawnRack poor = Checks.rackWith(0);
         poor.pledge(0, 0, 100, 1);
         poor.pledge(0, 0, 3, 1);
         poor.fetch(1);
@@ -168,14 +160,14 @@ public final class OutlookTest {
     }
 
     private static void bestRefuses() {
-        PawnRack rack = rackWith(0);
+        PawnRack rack = Checks.rackWith(0);
         for (int customer : new int[] {-1, 1, 10, Integer.MIN_VALUE, Integer.MAX_VALUE}) {
             Checks.refuses(rack, "best(" + customer + ")", Checks.INDEX, () -> rack.best(customer));
         }
     }
 
     private static void most() {
-        PawnRack rack = rackWith(0, 1000, 3);
+        PawnRack rack = Checks.rackWith(0, 1000, 3);
         rack.pledge(0, 0, 200, 1); // 126 is owed
         rack.pledge(0, 0, 40, 1);  // 25 is owed
         rack.pledge(1, 0, 20, 1);  // 13 is owed
@@ -199,7 +191,7 @@ public final class OutlookTest {
         rack.pass(32);
         Checks.same("for sale", rack.most(0), 0);
         mostWhereTheDearOneStandsFirst();
-        PawnRack many = rackWith(0);
+        PawnRack many = Checks.rackWith(0);
         for (int i = 0; i < 40; i++) {
             many.pledge(0, 0, 1, 1);
         }
@@ -209,7 +201,7 @@ public final class OutlookTest {
     }
 
     private static void mostWhereTheDearOneStandsFirst() {
-        PawnRack rack = rackWith(0);
+        PawnRack rack = Checks.rackWith(0);
         rack.pledge(0, 0, 300, 1); // 189 is owed
         rack.pledge(0, 0, 100, 1); // 63 is owed
         rack.pledge(0, 0, 40, 1);  // 25 is owed
@@ -229,14 +221,14 @@ public final class OutlookTest {
     }
 
     private static void mostRefuses() {
-        PawnRack rack = rackWith(0);
+        PawnRack rack = Checks.rackWith(0);
         for (int customer : new int[] {-1, 1, 10, Integer.MIN_VALUE, Integer.MAX_VALUE}) {
             Checks.refuses(rack, "most(" + customer + ")", Checks.INDEX, () -> rack.most(customer));
         }
     }
 
     private static void fetched() {
-        PawnRack rack = rackWith(1000);
+        PawnRack rack = Checks.rackWith(1000);
         for (int i = 0; i < 8; i++) {
             rack.pledge(0, i % 2, 10, 1);
         }
@@ -269,7 +261,7 @@ public final class OutlookTest {
     }
 
     private static PawnRack atStage(int stage, int[][] buyers) {
-        PawnRack rack = stage == 0 ? rackWith() : rackWith(100, 2000);
+        PawnRack rack = stage == 0 ? Checks.rackWith() : Checks.rackWith(100, 2000);
         for (int i = 0; i < 9 && i < stage; i++) {
             rack.pledge(i % 2, i % 5, 3 + 9 * i, 1 + i);
         }

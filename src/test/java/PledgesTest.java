@@ -21,16 +21,8 @@ public final class PledgesTest {
         Checks.end();
     }
 
-    private static PawnRack rackWith(int... coins) {
-        PawnRack rack = new PawnRack();
-        for (int each : coins) {
-            rack.come(each);
-        }
-        return rack;
-    }
-
     private static void pledge() {
-        PawnRack rack = rackWith(30, 0);
+        PawnRack rack = Checks.rackWith(30, 0);
         Checks.same("first ticket", rack.pledge(0, 2, 200, 6), 0);
         Checks.same("second ticket", rack.pledge(1, 0, 100, 6), 1);
         Checks.same("third ticket", rack.pledge(0, 4, 19, 4), 2);
@@ -45,7 +37,7 @@ public final class PledgesTest {
     }
 
     private static void loansFollowTrust() {
-        PawnRack rack = rackWith(2000);
+        PawnRack rack = Checks.rackWith(2000);
         for (int trust = 5; trust <= 10; trust++) {
             Checks.same("trust", rack.customer(0, 1), trust);
             int ticket = rack.pledge(0, 0, 333, 1);
@@ -65,7 +57,7 @@ public final class PledgesTest {
     }
 
     private static void pledgeNeedsCoins() {
-        PawnRack rack = rackWith(0, 0);
+        PawnRack rack = Checks.rackWith(0, 0);
         rack.pledge(0, 0, 500, 1);
         Checks.same("coins left", rack.count(1), 100);
         Checks.refuses(rack, "a loan of 101", Checks.STATE, () -> rack.pledge(1, 0, 169, 1));
@@ -75,7 +67,7 @@ public final class PledgesTest {
     }
 
     private static void pledgeNeedsRoom() {
-        PawnRack rack = rackWith(0);
+        PawnRack rack = Checks.rackWith(0);
         for (int i = 0; i < 5; i++) {
             rack.pledge(0, 0, 1, 10);
         }
@@ -86,7 +78,7 @@ public final class PledgesTest {
     }
 
     private static void pledgeNeedsTickets() {
-        PawnRack rack = rackWith(0);
+        PawnRack rack = Checks.rackWith(0);
         for (int i = 0; i < 40; i++) {
             Checks.same("ticket", rack.pledge(0, 0, 1, 1), i);
         }
@@ -102,7 +94,7 @@ public final class PledgesTest {
     }
 
     private static void pledgeRefuses() {
-        PawnRack rack = rackWith(10);
+        PawnRack rack = Checks.rackWith(10);
         for (int customer : new int[] {-1, 1, 10, Integer.MIN_VALUE, Integer.MAX_VALUE}) {
             Checks.refuses(rack, "pledge of " + customer, Checks.INDEX, () -> rack.pledge(customer, 0, 1, 1));
             Checks.refuses(rack, "wrong pledge of " + customer, Checks.INDEX, () -> rack.pledge(customer, 9, 0, 0));
@@ -123,7 +115,7 @@ public final class PledgesTest {
     }
 
     private static void ticket() {
-        PawnRack rack = rackWith(100, 0);
+        PawnRack rack = Checks.rackWith(100, 0);
         rack.pass(5);
         rack.pledge(1, 3, 200, 7);
         rack.pledge(0, 1, 90, 6);
@@ -159,7 +151,7 @@ public final class PledgesTest {
     }
 
     private static void ticketRefuses() {
-        PawnRack rack = rackWith(10);
+        PawnRack rack = Checks.rackWith(10);
         Checks.refuses(rack, "ticket without one", Checks.INDEX, () -> rack.ticket(0, 0));
         rack.pledge(0, 0, 1, 1);
         for (int number : new int[] {-1, 1, 40, Integer.MIN_VALUE, Integer.MAX_VALUE}) {
@@ -171,7 +163,7 @@ public final class PledgesTest {
     }
 
     private static void owes() {
-        PawnRack rack = rackWith(500);
+        PawnRack rack = Checks.rackWith(500);
         rack.pledge(0, 0, 330, 1); // a loan of 198, and 9 for each 30 days
         rack.pledge(0, 0, 2, 1);   // a loan of 1, and 1 for each 30 days
         rack.pledge(0, 0, 65, 1);  // a loan of 39, and 1 for each 30 days
@@ -204,7 +196,7 @@ public final class PledgesTest {
     }
 
     private static void owesRefuses() {
-        PawnRack rack = rackWith(10);
+        PawnRack rack = Checks.rackWith(10);
         Checks.refuses(rack, "owes without tickets", Checks.INDEX, () -> rack.owes(0));
         rack.pledge(0, 0, 1, 1);
         for (int number : new int[] {-1, 1, 40, Integer.MIN_VALUE, Integer.MAX_VALUE}) {
@@ -213,7 +205,7 @@ public final class PledgesTest {
     }
 
     private static void renew() {
-        PawnRack rack = rackWith(100);
+        PawnRack rack = Checks.rackWith(100);
         rack.pledge(0, 0, 200, 3); // a loan of 120, and 6 for each 30 days
         rack.pass(35);
         Checks.same("two times 6", rack.renew(0), 12);
@@ -241,7 +233,7 @@ public final class PledgesTest {
     }
 
     private static void renewNeedsCoins() {
-        PawnRack poor = rackWith(0);
+        PawnRack poor = Checks.rackWith(0);
         poor.pledge(0, 0, 2, 1);
         poor.pledge(0, 0, 2, 1);
         Checks.same("two coins", poor.customer(0, 0), 2);
@@ -254,7 +246,7 @@ public final class PledgesTest {
     }
 
     private static void renewRefuses() {
-        PawnRack rack = rackWith(1000);
+        PawnRack rack = Checks.rackWith(1000);
         Checks.refuses(rack, "renew without tickets", Checks.INDEX, () -> rack.renew(0));
         rack.pledge(0, 0, 100, 1);
         rack.pledge(0, 1, 100, 1);
@@ -273,7 +265,7 @@ public final class PledgesTest {
     }
 
     private static void fetch() {
-        PawnRack rack = rackWith(100, 40);
+        PawnRack rack = Checks.rackWith(100, 40);
         rack.pledge(0, 0, 100, 4); // 63 on the first days
         rack.pledge(1, 0, 50, 4);  // 31 on the first days
         Checks.same("fetch(1)", rack.fetch(1), 31);
@@ -297,7 +289,7 @@ public final class PledgesTest {
     }
 
     private static void fetchNeedsCoins() {
-        PawnRack rack = rackWith(0);
+        PawnRack rack = Checks.rackWith(0);
         rack.pledge(0, 0, 100, 1);
         Checks.refuses(rack, "63 with 60", Checks.STATE, () -> rack.fetch(0));
         rack.earn(0, 2);
@@ -308,7 +300,7 @@ public final class PledgesTest {
     }
 
     private static void fetchAfterTheDueDay() {
-        PawnRack rack = rackWith(100);
+        PawnRack rack = Checks.rackWith(100);
         rack.pledge(0, 0, 100, 1);
         rack.pledge(0, 0, 100, 1);
         rack.pass(61);
@@ -318,7 +310,7 @@ public final class PledgesTest {
     }
 
     private static void fetchRefuses() {
-        PawnRack rack = rackWith(1000);
+        PawnRack rack = Checks.rackWith(1000);
         Checks.refuses(rack, "fetch without tickets", Checks.INDEX, () -> rack.fetch(0));
         rack.pledge(0, 0, 100, 1);
         rack.pledge(0, 1, 100, 1);
