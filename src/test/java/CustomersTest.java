@@ -5,11 +5,13 @@ public final class CustomersTest {
         newObjectsAreApart();
         come();
         comeRefuses();
+        theTenthCustomer();
         earn();
         earnRefuses();
         setBuyer();
         setBuyerRefuses();
         customer();
+        customerWithoutTickets();
         customerRefuses();
         Checks.end();
     }
@@ -73,6 +75,22 @@ public final class CustomersTest {
         for (int coins : new int[] {-1, 2001, Integer.MIN_VALUE, Integer.MAX_VALUE}) {
             Checks.refuses(rack, "come(" + coins + ")", Checks.ARGUMENT, () -> rack.come(coins));
         }
+    }
+
+    /** The last customer of all is one like the others. */
+    private static void theTenthCustomer() {
+        PawnRack rack = Checks.rackWith(1, 2, 3, 4, 5, 6, 7, 8, 9);
+        Checks.refuses(rack, "the tenth ahead of the coming", Checks.INDEX, () -> rack.customer(9, 0));
+        Checks.same("the tenth comes", rack.come(10), 9);
+        Checks.same("earn(9, 5)", rack.earn(9, 5), 15);
+        Checks.same("the tenth leaves a thing", rack.pledge(9, 0, 100, 1), 0);
+        Checks.same("its customer", rack.ticket(0, 0), 9);
+        Checks.same("best(9)", rack.best(9), 0);
+        Checks.same("most(9)", rack.most(9), 1);
+        Checks.same("renewed", rack.renew(0), 3);
+        Checks.same("fetched", rack.fetch(0), 63);
+        tells(rack, 9, 15 + 60 - 3 - 63, 6, 0, 0, 1);
+        tells(rack, 8, 9, 5, 0, 0, 0);
     }
 
     private static void earn() {
@@ -157,6 +175,15 @@ public final class CustomersTest {
         rack.pass(32);
         tells(rack, 0, 106, 5, 0, 0, 2);
         tells(rack, 1, 90, 3, 0, 0, 0);
+    }
+
+    private static void customerWithoutTickets() {
+        PawnRack rack = Checks.rackWith(0, 7);
+        rack.pledge(1, 0, 10, 1);
+        tells(rack, 0, 0, 5, 0, 0, 0);
+        rack.earn(0, 12);
+        tells(rack, 0, 12, 5, 0, 0, 0);
+        tells(rack, 1, 13, 5, 1, 7, 0);
     }
 
     private static void tells(PawnRack rack, int customer, int... due) {

@@ -6,13 +6,19 @@ public final class DaysTest {
         goesForSaleBehindTheDueDay();
         pricesFall();
         leastPrices();
+        onlyOlderOffersFall();
         soldOnTheFirstDay();
+        soldAtTheFallenPrice();
+        soldAtTheLeastPrice();
         theBuyerOfTheWeekday();
         theDearestWithinThePurse();
+        theDearestByItsPrice();
         theSmallestNumberOfEqualOnes();
+        theSmallestNumberWhateverTheValue();
         oneThingADay();
         thePurseIsFullEachDay();
         trustFalls();
+        trustAtItsEnds();
         count();
         countRefuses();
         Checks.end();
@@ -105,6 +111,24 @@ public final class DaysTest {
         }
     }
 
+    /** On the day on which one goes for sale, only those fall that are for sale since an earlier day. */
+    private static void onlyOlderOffersFall() {
+        PawnRack rack = Checks.rackWith(0);
+        rack.pledge(0, 0, 100, 1);
+        rack.pass(1);
+        rack.pledge(0, 0, 100, 1);
+        rack.pass(1);
+        rack.pledge(0, 0, 100, 1);
+        rack.pass(61);
+        state(rack, 0, 2, 95);
+        state(rack, 1, 2, 100);
+        state(rack, 2, 0, 0);
+        rack.pass(1);
+        state(rack, 0, 2, 90);
+        state(rack, 1, 2, 95);
+        state(rack, 2, 2, 100);
+    }
+
     private static void soldOnTheFirstDay() {
         PawnRack rack = Checks.rackWith(0);
         rack.pledge(0, 3, 100, 5);
@@ -115,6 +139,42 @@ public final class DaysTest {
         Checks.same("the broker has the price", rack.count(1), 440);
         Checks.same("the customer has nothing of it", rack.customer(0, 0), 60);
         Checks.same("its place is free", rack.count(8), 0);
+    }
+
+    /** On the day 62 what was offered at 100 costs 95, which has to be at most the purse. */
+    private static void soldAtTheFallenPrice() {
+        PawnRack poor = Checks.rackWith(0);
+        poor.pledge(0, 0, 100, 1);
+        poor.setBuyer(62 % 7, 0, 94);
+        Checks.same("94 for 95", poor.pass(63), 0);
+        state(poor, 0, 2, 95);
+        PawnRack rack = Checks.rackWith(0);
+        rack.pledge(0, 0, 100, 1);
+        rack.setBuyer(62 % 7, 0, 95);
+        Checks.same("95 for 95", rack.pass(63), 1);
+        state(rack, 0, 3, 95);
+        Checks.same("the broker has the fallen price", rack.count(1), 340 + 95);
+        rack.pass(30);
+        state(rack, 0, 3, 95);
+    }
+
+    private static void soldAtTheLeastPrice() {
+        PawnRack rack = Checks.rackWith(0);
+        rack.pledge(0, 0, 109, 1); // from 109 down to 32, by 5 each day
+        rack.pass(62 + 15);
+        state(rack, 0, 2, 34);
+        rack.pass(1);
+        state(rack, 0, 2, 32);
+        for (int weekday = 0; weekday < 7; weekday++) {
+            rack.setBuyer(weekday, 0, 31);
+        }
+        Checks.same("31 for 32", rack.pass(200), 0);
+        state(rack, 0, 2, 32);
+        for (int weekday = 0; weekday < 7; weekday++) {
+            rack.setBuyer(weekday, 0, 32);
+        }
+        Checks.same("32 for 32", rack.pass(1), 1);
+        state(rack, 0, 3, 32);
     }
 
     private static void theBuyerOfTheWeekday() {
@@ -152,6 +212,41 @@ public final class DaysTest {
         Checks.same("an empty purse", rack.pass(7), 0);
         rack.setBuyer(0, 0, 19);
         Checks.same("just enough", rack.pass(7), 1);
+    }
+
+    /** What is worth more, but has fallen, is not the dearest. */
+    private static void theDearestByItsPrice() {
+        PawnRack rack = Checks.rackWith(0);
+        rack.pledge(0, 0, 100, 1);
+        rack.pass(9);
+        rack.pledge(0, 0, 56, 1);
+        rack.pass(61);
+        rack.setBuyer(70 % 7, 0, 500);
+        Checks.same("one is sold", rack.pass(1), 1);
+        state(rack, 0, 2, 55);
+        state(rack, 1, 3, 56);
+    }
+
+    private static void theSmallestNumberWhateverTheValue() {
+        PawnRack rack = Checks.rackWith(0);
+        rack.pledge(0, 0, 100, 1);
+        rack.pass(9);
+        rack.pledge(0, 0, 55, 1);
+        rack.pass(61);
+        rack.setBuyer(70 % 7, 0, 500);
+        rack.pass(1);
+        state(rack, 0, 3, 55);
+        state(rack, 1, 2, 55);
+        PawnRack turned = Checks.rackWith(0);
+        turned.pledge(0, 0, 55, 1);
+        turned.pledge(0, 0, 100, 1);
+        turned.pass(9);
+        turned.renew(0);
+        turned.pass(61);
+        turned.setBuyer(70 % 7, 0, 500);
+        turned.pass(1);
+        state(turned, 0, 3, 55);
+        state(turned, 1, 2, 55);
     }
 
     private static void theSmallestNumberOfEqualOnes() {
@@ -215,6 +310,31 @@ public final class DaysTest {
         Checks.same("2 less for one that was not fetched", rack.customer(1, 1), 4);
         rack.pass(100);
         Checks.same("only once", rack.customer(1, 1), 4);
+    }
+
+    private static void trustAtItsEnds() {
+        PawnRack rack = Checks.rackWith(2000);
+        for (int i = 0; i < 6; i++) {
+            rack.fetch(rack.pledge(0, 0, 1, 1));
+        }
+        Checks.same("not above 10", rack.customer(0, 1), 10);
+        leave(rack, 1);
+        Checks.same("2 less than 10", rack.customer(0, 1), 8);
+        leave(rack, 4);
+        Checks.same("just 0", rack.customer(0, 1), 0);
+        leave(rack, 1);
+        Checks.same("not below 0", rack.customer(0, 1), 0);
+        rack.fetch(rack.pledge(0, 0, 1, 1));
+        Checks.same("1 more than 0", rack.customer(0, 1), 1);
+        leave(rack, 1);
+        Checks.same("0 from 1", rack.customer(0, 1), 0);
+    }
+
+    private static void leave(PawnRack rack, int things) {
+        for (int i = 0; i < things; i++) {
+            rack.pledge(0, 0, 1, 1);
+        }
+        rack.pass(62);
     }
 
     private static void count() {

@@ -1,3 +1,5 @@
+import java.math.BigInteger;
+
 /** Promises 16 to 21: foresee, raise, best, most, fetched, digest. */
 public final class OutlookTest {
     public static void main(String[] args) {
@@ -10,9 +12,12 @@ public final class OutlookTest {
         bestBelowZero();
         bestRefuses();
         most();
+        mostWithoutCoins();
         mostRefuses();
         fetched();
+        fetchedWithoutFetching();
         digest();
+        digestWrapsAround();
         Checks.end();
     }
 
@@ -220,6 +225,21 @@ public final class OutlookTest {
         Checks.same("63 coins for 63, 25 and 2", rack.most(0), 2);
     }
 
+    private static void mostWithoutCoins() {
+        PawnRack rack = Checks.rackWith(0, 0);
+        rack.pledge(0, 0, 2, 1); // a loan of 1, and 1 more for each 30 days
+        Checks.same("1 for 2", rack.most(0), 0);
+        rack.renew(0);
+        Checks.same("no coins", rack.customer(0, 0), 0);
+        Checks.same("0 for 2", rack.most(0), 0);
+        Checks.same("0 for 2: none is best", rack.best(0), -1);
+        rack.earn(0, 2);
+        Checks.same("2 for 2", rack.most(0), 1);
+        Checks.same("2 for 2: the best", rack.best(0), 0);
+        Checks.same("no coins, no tickets", rack.most(1), 0);
+        Checks.same("no coins, no tickets: none is best", rack.best(1), -1);
+    }
+
     private static void mostRefuses() {
         PawnRack rack = Checks.rackWith(0);
         for (int customer : new int[] {-1, 1, 10, Integer.MIN_VALUE, Integer.MAX_VALUE}) {
@@ -247,6 +267,24 @@ public final class OutlookTest {
         Checks.sameDouble("four for sale, one sold", rack.fetched(), 2.0 / 7);
         rack.fetch(7);
         Checks.sameDouble("one more", rack.fetched(), 3.0 / 8);
+    }
+
+    private static void fetchedWithoutFetching() {
+        PawnRack rack = Checks.rackWith(0);
+        rack.pledge(0, 0, 10, 1);
+        rack.pass(62);
+        Checks.sameDouble("only one for sale", rack.fetched(), 0.0);
+        rack.setBuyer(62 % 7, 0, 500);
+        rack.pass(1);
+        Checks.sameDouble("only one sold", rack.fetched(), 0.0);
+        rack.pledge(0, 0, 10, 1);
+        Checks.sameDouble("held ones are not counted", rack.fetched(), 0.0);
+        rack.earn(0, 10);
+        rack.fetch(1);
+        Checks.sameDouble("a half", rack.fetched(), 0.5);
+        rack.pledge(0, 0, 10, 1);
+        rack.pass(62);
+        Checks.sameDouble("a third", rack.fetched(), 1.0 / 3);
     }
 
     /** One object for each stage, since to work out its digest takes many calls. */
@@ -304,5 +342,27 @@ public final class OutlookTest {
             d = 31 * d + rack.owes(ticket);
         }
         return d;
+    }
+
+    /** The exact number has far more than 64 bits; the last 64 of them are the digest. */
+    private static void digestWrapsAround() {
+        PawnRack empty = new PawnRack();
+        int[] told = {0, 400, 0, 0, 0, 0, 0, 0, 0, 0, 0, -1, 0, -1, 0, -1, 0, -1, 0, -1, 0, -1, 0, -1, 0};
+        wraps("of a new object", empty, told);
+        PawnRack rack = Checks.rackWith(2000);
+        rack.pledge(0, 4, 500, 10);
+        rack.setBuyer(6, 3, 500);
+        int[] more = {0, 100, 1, 1, 1, 0, 0, 0, 10, 300, 0, -1, 0, -1, 0, -1, 0, -1, 0, -1, 0, -1, 0, 3, 500,
+            2300, 5, 1, 315, 0, 0, 4, 500, 10, 300, 60, 0, 0, 0, 0, 0, 315};
+        wraps("with a ticket", rack, more);
+    }
+
+    private static void wraps(String what, PawnRack rack, int[] told) {
+        BigInteger exact = BigInteger.valueOf(719);
+        for (int number : told) {
+            exact = exact.multiply(BigInteger.valueOf(31)).add(BigInteger.valueOf(number));
+        }
+        Checks.same("the exact digest " + what + " is longer than 64 bits", exact.bitLength() > 64 ? 1 : 0, 1);
+        Checks.same("the digest " + what, rack.digest(), exact.longValue());
     }
 }

@@ -6,7 +6,9 @@ public final class PledgesTest {
         pledgeNeedsCoins();
         pledgeNeedsRoom();
         pledgeNeedsTickets();
+        pledgeFillsAllAtOnce();
         pledgeRefuses();
+        pledgeRefusesInOrder();
         ticket();
         ticketRefuses();
         owes();
@@ -93,6 +95,20 @@ public final class PledgesTest {
         Checks.same("the last one is a ticket like the others", rack.ticket(39, 8), 9);
     }
 
+    /** The 40th ticket takes the last place, and the last coins. */
+    private static void pledgeFillsAllAtOnce() {
+        PawnRack rack = Checks.rackWith(0);
+        for (int i = 0; i < 40; i++) {
+            Checks.same("ticket", rack.pledge(0, 0, 17, i < 30 ? 1 : 3), i);
+        }
+        Checks.same("no coins", rack.count(1), 0);
+        Checks.same("all places", rack.count(8), 60);
+        Checks.same("no room", rack.room(1), -1);
+        Checks.same("the last ticket in the last place", rack.at(2, 29), 39);
+        Checks.same("all loans", rack.count(9), 400);
+        Checks.refuses(rack, "one more", Checks.STATE, () -> rack.pledge(0, 0, 1, 1));
+    }
+
     private static void pledgeRefuses() {
         PawnRack rack = Checks.rackWith(10);
         for (int customer : new int[] {-1, 1, 10, Integer.MIN_VALUE, Integer.MAX_VALUE}) {
@@ -148,6 +164,33 @@ public final class PledgesTest {
         for (int what = 0; what < due.length; what++) {
             Checks.same("ticket(" + ticket + ", " + what + ")", rack.ticket(ticket, what), due[what]);
         }
+    }
+
+    /** What is wrong in the arguments is told, even if coins or room are lacking as well. */
+    private static void pledgeRefusesInOrder() {
+        PawnRack poor = Checks.rackWith(0);
+        poor.pledge(0, 0, 500, 1);
+        poor.pledge(0, 0, 167, 1);
+        Checks.same("no coins", poor.count(1), 0);
+        refusesInOrder(poor);
+        PawnRack full = Checks.rackWith(0);
+        for (int i = 0; i < 6; i++) {
+            full.pledge(0, 0, 1, 10);
+        }
+        Checks.same("no room", full.room(1), -1);
+        refusesInOrder(full);
+    }
+
+    private static void refusesInOrder(PawnRack rack) {
+        Checks.refuses(rack, "a good pledge", Checks.STATE, () -> rack.pledge(0, 0, 500, 10));
+        Checks.refuses(rack, "of kind 5", Checks.ARGUMENT, () -> rack.pledge(0, 5, 500, 10));
+        Checks.refuses(rack, "of kind -1", Checks.ARGUMENT, () -> rack.pledge(0, -1, 500, 10));
+        Checks.refuses(rack, "of the value 501", Checks.ARGUMENT, () -> rack.pledge(0, 0, 501, 10));
+        Checks.refuses(rack, "of the value 0", Checks.ARGUMENT, () -> rack.pledge(0, 0, 0, 10));
+        Checks.refuses(rack, "of the width 11", Checks.ARGUMENT, () -> rack.pledge(0, 0, 500, 11));
+        Checks.refuses(rack, "of the width 0", Checks.ARGUMENT, () -> rack.pledge(0, 0, 500, 0));
+        Checks.refuses(rack, "of customer 1", Checks.INDEX, () -> rack.pledge(1, 0, 500, 10));
+        Checks.refuses(rack, "all wrong", Checks.INDEX, () -> rack.pledge(-1, 5, 501, 11));
     }
 
     private static void ticketRefuses() {

@@ -9,6 +9,9 @@ public final class RackTest {
         tidy();
         tidyOverlapping();
         tidyKeepsShelves();
+        tidyFull();
+        tidyFromTheLastPlace();
+        tidyThingsForSale();
         Checks.end();
     }
 
@@ -143,5 +146,43 @@ public final class RackTest {
         Checks.same("three move", rack.tidy(), 3);
         shows("each on its own shelf, in its order", rack, "2222", "333333333344444", "5555555555");
         Checks.same("the shelf of 4", rack.ticket(4, 7), 1);
+    }
+
+    private static void tidyFull() {
+        PawnRack rack = rackWithThings(10, 10, 10, 10, 10, 10);
+        long before = Checks.fingerprint(rack);
+        Checks.same("all places are taken", rack.count(8), 60);
+        Checks.same("no thing can move", rack.tidy(), 0);
+        Checks.same("nothing is changed", Checks.fingerprint(rack), before);
+    }
+
+    private static void tidyFromTheLastPlace() {
+        PawnRack rack = rackWithThings(9, 1, 10, 9, 1, 10, 10, 9, 1);
+        shows("with things in the last places", rack, "0000000001", "22222222223333333334",
+            "555555555566666666667777777778");
+        rack.fetch(0);
+        rack.fetch(2);
+        rack.fetch(3);
+        rack.fetch(5);
+        rack.fetch(6);
+        rack.fetch(7);
+        Checks.same("one moves on each shelf", rack.tidy(), 3);
+        shows("each in the first place", rack, "1", "4", "8");
+    }
+
+    private static void tidyThingsForSale() {
+        PawnRack rack = rackWithThings(2, 3, 4, 1);
+        rack.fetch(0);
+        rack.pass(62);
+        Checks.same("three are for sale", rack.count(6), 3);
+        Checks.same("what is for sale moves", rack.tidy(), 3);
+        shows("for sale, and tidied", rack, "11122223");
+        rack.setBuyer(62 % 7, 0, 500);
+        rack.pass(1);
+        Checks.same("one is sold", rack.ticket(1, 6), 3);
+        shows("with the gap of a sale", rack, "...22223");
+        Checks.same("two close the gap", rack.tidy(), 2);
+        shows("tidied again", rack, "22223");
+        Checks.same("what was sold has no place", rack.ticket(1, 8), -1);
     }
 }
