@@ -90,9 +90,8 @@ public final class FaceTest {
     private static void fields(Class<?> program) {
         for (Field field : program.getDeclaredFields()) {
             Checks.same(field.getName() + " is private", field.getModifiers() & Modifier.PRIVATE, Modifier.PRIVATE);
-            boolean isOpenState = Modifier.isStatic(field.getModifiers()) && !Modifier.isFinal(field.getModifiers());
-            Checks.same(field.getName() + " is state that all share", isOpenState ? 1 : 0, 0);
         }
+        holdsNothingShared(program);
     }
 
     private static void classesInside(Class<?> program) {
@@ -100,6 +99,33 @@ public final class FaceTest {
             int modifiers = inside.getModifiers();
             boolean isHidden = !Modifier.isPublic(modifiers) && !Modifier.isProtected(modifiers);
             Checks.same(inside.getName() + " is hidden and static", isHidden && Modifier.isStatic(modifiers) ? 1 : 0, 1);
+            holdsNothingShared(inside);
+            hidesNoFaceName(inside);
         }
+    }
+
+    private static void holdsNothingShared(Class<?> owner) {
+        for (Field field : owner.getDeclaredFields()) {
+            boolean isShared = Modifier.isStatic(field.getModifiers());
+            boolean isConstant = Modifier.isFinal(field.getModifiers()) && field.getType().isPrimitive();
+            Checks.same(owner.getName() + "." + field.getName() + " is state that all share", isShared && !isConstant ? 1 : 0, 0);
+        }
+    }
+
+    // LANGUAGE.md's rule 1 says "no private method", so it is held in the classes inside too.
+    private static void hidesNoFaceName(Class<?> inside) {
+        for (Method method : inside.getDeclaredMethods()) {
+            boolean isPrivate = Modifier.isPrivate(method.getModifiers());
+            Checks.same(inside.getName() + "." + method.getName() + " hides a name of the face", isPrivate && isOfFace(method.getName()) ? 1 : 0, 0);
+        }
+    }
+
+    private static boolean isOfFace(String name) {
+        for (String line : FACE) {
+            if (line.contains(" " + name + "(")) {
+                return true;
+            }
+        }
+        return false;
     }
 }
